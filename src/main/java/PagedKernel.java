@@ -63,7 +63,7 @@ public final class PagedKernel {
     private static final int CROOKED_PUT_FAULT = 6;
     private static final int PUT_FAULT = 7;
 
-    // What an instruction came to when it was no fault; faults are 0 .. 7.
+    // What an instruction came to when it was no fault; the faults are 0 .. 7.
     private static final int DONE = -1;
     private static final int CALLED = -2;
 
@@ -200,7 +200,7 @@ public final class PagedKernel {
     }
 
     public int held(int pipe) {
-        return pipe < 0 || pipe >= PIPES ? 0 : pipes[pipe].count;
+        return pipe < 0 || pipe >= PIPES || isFreePipe(pipe) ? 0 : pipes[pipe].count;
     }
 
     public int consoleLength() {
@@ -254,19 +254,15 @@ public final class PagedKernel {
         }
         yielded = false;
         stepsLeft--;
-        makeInstruction(task);
+        int outcome = Machine.execute(memory, task);
+        if (outcome == CALLED && beginCall(task)) {
+            task.setRegister(ANSWER, answerOf(task, task.valueOf(ANSWER)));
+        } else if (outcome >= 0) {
+            end(task, FAULT_EXIT + outcome);
+        }
         passTurn(task);
         wakeSleepers();
         return maker;
-    }
-
-    private void makeInstruction(Task task) {
-        int outcome = Machine.execute(memory, task);
-        if (outcome == CALLED) {
-            makeCall(task);
-        } else if (outcome != DONE) {
-            end(task, FAULT_EXIT + outcome);
-        }
     }
 
     private void passTurn(Task task) {
@@ -287,26 +283,15 @@ public final class PagedKernel {
         }
     }
 
-    private void makeCall(Task task) {
-        int obstacle = obstacleOf(task);
-        if (obstacle != READY) {
-            task.state = obstacle;
-            return;
+    /** False when the process must wait before its call can be made. */
+    private boolean beginCall(Task task) {
+        task.state = obstacleOf(task);
+        if (task.state != READY) {
+            return false;
         }
-        // The PC grows first, so that a forked copy has the PC after the call too.
+        // The PC grows before the call is made, so that a forked copy has the PC after it too.
         task.counter += 4;
-        int a = task.valueOf(ANSWER);
-        switch (task.valueOf(CALL_KIND)) {
-            case YIELD:
-                yielded = true;
-                break;
-            case EXIT:
-                end(task, a);
-                break;
-            default:
-                task.setRegister(ANSWER, answerOf(task, a));
-                break;
-        }
+        return true;
     }
 
     /**
@@ -319,16 +304,23 @@ public final class PagedKernel {
             case WAIT:
                 return hasChild(task) && endedChildOf(task) == null ? WAITING : READY;
             case WRITE:
-                return isWritingEnd(end) && isHeld(end - 1) && pipeOf(end).isFull() ? WRITING : READY;
+                return isWritingEnd(end) && pipeOf(end).isFull() && isHeld(end - 1) ? WRITING : READY;
             case READ:
-                return isReadingEnd(end) && isHeld(end + 1) && pipeOf(end).isEmpty() ? READING : READY;
+                return isReadingEnd(end) && pipeOf(end).isEmpty() && isHeld(end + 1) ? READING : READY;
             default:
                 return READY;
         }
     }
 
+    /** Makes a call that nothing is in the way of; a call without an answer gives back its a. */
     private int answerOf(Task task, int a) {
         switch (task.valueOf(CALL_KIND)) {
+            case YIELD:
+                yielded = true;
+                return a;
+            case EXIT:
+                end(task, a);
+                return a;
             case OWN_NUMBER:
                 return task.number;
             case FORK:
@@ -444,6 +436,8 @@ public final class PagedKernel {
         if (readingEnd == NONE || reader == NONE || writer == NONE) {
             return REFUSED;
         }
+        // What was left in the pipe when its last end went counts as gone, but lies there until now.
+        pipeOf(readingEnd).empty();
         task.descriptors[reader] = readingEnd;
         task.descriptors[writer] = readingEnd + 1;
         task.setRegister(SECOND, writer);
@@ -455,7 +449,6 @@ public final class PagedKernel {
             return REFUSED;
         }
         task.descriptors[d] = NONE;
-        emptyFreePipes();
         return 0;
     }
 
@@ -480,7 +473,6 @@ public final class PagedKernel {
     private void end(Task task, int exit) {
         memory.takeBack(task);
         task.forgetDescriptors();
-        emptyFreePipes();
         row.drop(task.number);
         task.state = ENDED;
         task.exit = exit;
@@ -521,8 +513,10 @@ public final class PagedKernel {
 
     private boolean isHeld(int end) {
         for (int i = 0; i < PROCESSES; i++) {
-            if (tasks[i].holds(end)) {
-                return true;
+            for (int d = 0; d < DESCRIPTORS; d++) {
+                if (tasks[i].descriptors[d] == end) {
+                    return true;
+                }
             }
         }
         return false;
@@ -539,14 +533,6 @@ public final class PagedKernel {
 
     private boolean isFreePipe(int p) {
         return !isHeld(1 + 2 * p) && !isHeld(2 + 2 * p);
-    }
-
-    private void emptyFreePipes() {
-        for (int p = 0; p < PIPES; p++) {
-            if (isFreePipe(p)) {
-                pipes[p].empty();
-            }
-        }
     }
 
     /** A process; when it has ended its descriptors are nothing and it has no pages. */
@@ -582,18 +568,9 @@ public final class PagedKernel {
             return d < 0 || d >= DESCRIPTORS ? NONE : descriptors[d];
         }
 
-        boolean holds(int end) {
-            for (int d = 0; d < DESCRIPTORS; d++) {
-                if (descriptors[d] == end) {
-                    return true;
-                }
-            }
-            return false;
-        }
-
         int leastNothing(int from) {
             for (int d = from; d < DESCRIPTORS; d++) {
-                if (endAt(d) == NONE) {
+                if (d >= 0 && descriptors[d] == NONE) {
                     return d;
                 }
             }

@@ -53,6 +53,11 @@ final class Program {
         return add(Asm.jal(0, 0));
     }
 
+    /** Only fit for parts whose jumps stay inside them. */
+    void addTo(Program other) {
+        other.words.addAll(words);
+    }
+
     int size() {
         return words.size();
     }

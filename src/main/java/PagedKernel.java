@@ -177,7 +177,7 @@ public final class PagedKernel {
 
     public int register(int process, int k) {
         Task task = find(process);
-        return task == null ? 0 : task.valueOf(k);
+        return task == null ? 0 : task.getRegister(k);
     }
 
     public int pc(int process) {
@@ -256,7 +256,7 @@ public final class PagedKernel {
         stepsLeft--;
         int outcome = Machine.execute(memory, task);
         if (outcome == CALLED && beginCall(task)) {
-            task.setRegister(ANSWER, answerOf(task, task.valueOf(ANSWER)));
+            task.setRegister(ANSWER, answerOf(task, task.getRegister(ANSWER)));
         } else if (outcome >= 0) {
             end(task, FAULT_EXIT + outcome);
         }
@@ -299,8 +299,8 @@ public final class PagedKernel {
      * in its way. A sleeping process keeps its registers, so it is asked in the same way.
      */
     private int obstacleOf(Task task) {
-        int end = task.endAt(task.valueOf(ANSWER));
-        switch (task.valueOf(CALL_KIND)) {
+        int end = task.endAt(task.getRegister(ANSWER));
+        switch (task.getRegister(CALL_KIND)) {
             case WAIT:
                 return hasChild(task) && endedChildOf(task) == null ? WAITING : READY;
             case WRITE:
@@ -314,7 +314,7 @@ public final class PagedKernel {
 
     /** Makes a call that nothing is in the way of; a call without an answer gives back its a. */
     private int answerOf(Task task, int a) {
-        switch (task.valueOf(CALL_KIND)) {
+        switch (task.getRegister(CALL_KIND)) {
             case YIELD:
                 yielded = true;
                 return a;
@@ -330,7 +330,7 @@ public final class PagedKernel {
             case GROW:
                 return grow(task, a);
             case WRITE:
-                return write(task.endAt(a), task.valueOf(SECOND) & 255);
+                return write(task.endAt(a), task.getRegister(SECOND) & 255);
             case READ:
                 return read(task.endAt(a));
             case PIPE:
@@ -554,7 +554,7 @@ public final class PagedKernel {
             }
         }
 
-        int valueOf(int k) {
+        int getRegister(int k) {
             return k < 0 || k >= REGISTERS ? 0 : registers[k];
         }
 
@@ -956,11 +956,11 @@ public final class PagedKernel {
         }
 
         private static int first(Task task, int w) {
-            return task.valueOf((w >>> 15) & 31);
+            return task.getRegister((w >>> 15) & 31);
         }
 
         private static int second(Task task, int w) {
-            return task.valueOf((w >>> 20) & 31);
+            return task.getRegister((w >>> 20) & 31);
         }
 
         private static int selector(int w) {

@@ -19,6 +19,7 @@ public final class PipeTest {
         fullPipe();
         writerWokenByClose();
         readerWokenByClose();
+        everyPipe();
         CHECKS.finish();
     }
 
@@ -301,5 +302,29 @@ public final class PipeTest {
         CHECKS.due("ready", kernel.stateOf(1), 1);
         kernel.step();
         CHECKS.due("-1", kernel.register(1, 10), -1);
+    }
+
+    /** Each pipe is filled, written to the console beside, read from, and its reading end kept. */
+    private static void everyPipe() {
+        Program program = new Program().call(Asm.PIPE).add(Asm.branch(5, 10, 0, 8)).stay();
+        program.add(Asm.number(0, 6, 10, 0), Asm.number(0, 7, 11, 0)).set(5, 8).set(17, Asm.WRITE);
+        int again = program.here();
+        program.add(Asm.number(0, 10, 7, 0), Asm.number(0, 11, 5, 40), Asm.CALL, Asm.number(0, 5, 5, -1));
+        program.add(Asm.branch(1, 5, 0, again - program.here())).call(Asm.WRITE, 1, 'x').nothing(1);
+        program.set(17, Asm.READ).add(Asm.number(0, 10, 6, 0), Asm.CALL, Asm.number(0, 11, 10, 0)).call(Asm.WRITE, 1);
+        program.add(Asm.number(0, 10, 7, 0)).call(Asm.CLOSE);
+        program.add(Asm.jal(0, -program.here()));
+        PagedKernel kernel = program.booted(12, 4);
+        for (int i = 0; i < 20; i++) {
+            kernel.run(20);
+        }
+        CHECKS.dueConsole("a mark and the first byte of each", kernel, "x0x0x0x0");
+        for (int pipe = 0; pipe < 4; pipe++) {
+            CHECKS.due("held by " + pipe, kernel.held(pipe), 7);
+        }
+        int[] ends = {1, 0, 3, 5, 7, -1};
+        for (int d = 0; d < 6; d++) {
+            CHECKS.due("descriptor " + d, kernel.descriptor(1, d), ends[d]);
+        }
     }
 }

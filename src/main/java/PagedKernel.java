@@ -67,6 +67,7 @@ public final class PagedKernel {
     private static final int DONE = -1;
     private static final int CALLED = -2;
 
+    private static final int SIGN_BIT = 1 << 31;
     private static final int CALL_WORD = 115;
     private static final int BREAK_WORD = 1048691;
 
@@ -952,7 +953,8 @@ public final class PagedKernel {
         }
 
         private static boolean isBelow(int a, int b) {
-            return (a ^ Integer.MIN_VALUE) < (b ^ Integer.MIN_VALUE);
+            // With the sign bits turned over, numbers without sign stand in the order of those with it.
+            return (a ^ SIGN_BIT) < (b ^ SIGN_BIT);
         }
 
         private static int first(Task task, int w) {

@@ -1,6 +1,13 @@
+import java.util.function.BooleanSupplier;
+
 /** Counts the answers that are not as due and prints each of them. */
 final class Checks {
+    private static final int MOST_STEPS = 2000;
+
     private final String title;
+    private String sentence = "";
+    private int sentences;
+    private int madeBefore;
     private int made;
     private int wrong;
 
@@ -8,11 +15,29 @@ final class Checks {
         this.title = title;
     }
 
+    /** What is checked from here on holds this sentence of the document; it is told with what is wrong. */
+    void sentence(String words) {
+        closeSentence();
+        sentence = words;
+        sentences++;
+    }
+
+    private void closeSentence() {
+        if (sentences > 0 && made == madeBefore) {
+            tell("nothing is checked");
+        }
+        madeBefore = made;
+    }
+
+    private void tell(String what) {
+        wrong++;
+        System.out.println(title + ": " + what + (sentence.isEmpty() ? "" : " [" + sentence + "]"));
+    }
+
     void due(String what, long got, long want) {
         made++;
         if (got != want) {
-            wrong++;
-            System.out.println(title + ": " + what + " answered " + got + ", due is " + want);
+            tell(what + " answered " + got + ", due is " + want);
         }
     }
 
@@ -40,13 +65,23 @@ final class Checks {
     void dueText(String what, String got, String want) {
         made++;
         if (!got.equals(want)) {
-            wrong++;
-            System.out.println(title + ": " + what + " answered '" + got + "', due is '" + want + "'");
+            tell(what + " answered '" + got + "', due is '" + want + "'");
         }
     }
 
+    /** Makes steps until something is so, which must come. */
+    void until(String what, PagedKernel kernel, BooleanSupplier reached) {
+        for (int i = 0; i < MOST_STEPS && !reached.getAsBoolean(); i++) {
+            if (kernel.step() <= 0) {
+                break;
+            }
+        }
+        due(what, reached.getAsBoolean(), true);
+    }
+
     void finish() {
-        System.out.println(title + ": " + made + " checks, " + wrong + " wrong");
+        closeSentence();
+        System.out.println(title + ": " + (sentences > 0 ? sentences + " sentences, " : "") + made + " checks, " + wrong + " wrong");
         if (wrong != 0) {
             System.exit(1);
         }

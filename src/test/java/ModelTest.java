@@ -41,7 +41,7 @@ public final class ModelTest {
             } else {
                 CHECKS.due("seed " + seed + " step", kernel.step(), model.step());
             }
-            CHECKS.dueText("seed " + seed + " call " + call, look(kernel), model.look());
+            CHECKS.dueText("seed " + seed + " call " + call, Look.all(kernel), model.look());
             for (int p = 1; p <= 8; p++) {
                 seen[kernel.stateOf(p)]++;
             }
@@ -113,46 +113,5 @@ public final class ModelTest {
             return Asm.number(new int[] {0, 2, 3, 4, 6, 7}[random.nextInt(6)], d, s, random.nextInt(4096) - 2048);
         }
         return kind < 99 ? Asm.jalr(1, 0, random.nextInt(64) * 4) : random.nextInt();
-    }
-
-    private static String look(PagedKernel kernel) {
-        List<Integer> row = new ArrayList<>();
-        for (int i = 0; kernel.waitingTurn(i) != 0; i++) {
-            row.add(kernel.waitingTurn(i));
-        }
-        List<Integer> console = new ArrayList<>();
-        for (int i = 0; i < kernel.consoleLength(); i++) {
-            console.add(kernel.console(i));
-        }
-        StringBuilder text = new StringBuilder();
-        text.append("turn ").append(kernel.current()).append(" row ").append(row).append(" free ").append(kernel.freeFrames());
-        text.append(" console ").append(console).append(" held");
-        for (int pipe = 0; pipe < 4; pipe++) {
-            text.append(' ').append(kernel.held(pipe));
-        }
-        for (int p = 1; p <= 8; p++) {
-            if (kernel.stateOf(p) != 0) {
-                look(kernel, p, text);
-            }
-        }
-        return text.toString();
-    }
-
-    private static void look(PagedKernel kernel, int p, StringBuilder text) {
-        text.append("\nprocess ").append(p).append(" state ").append(kernel.stateOf(p));
-        text.append(" exit ").append(kernel.exitOf(p)).append(" parent ").append(kernel.parentOf(p));
-        text.append(" pages ").append(kernel.pages(p)).append(" pc ").append(kernel.pc(p));
-        int[] registers = new int[32];
-        for (int k = 0; k < 32; k++) {
-            registers[k] = kernel.register(p, k);
-        }
-        text.append(" registers ").append(Arrays.toString(registers)).append(" descriptors");
-        for (int d = 0; d < 6; d++) {
-            text.append(' ').append(kernel.descriptor(p, d));
-        }
-        text.append(" words");
-        for (int address = 0; address < 64 * kernel.pages(p); address += 4) {
-            text.append(' ').append(kernel.word(p, address));
-        }
     }
 }

@@ -53,9 +53,25 @@ final class Program {
         return add(Asm.jal(0, 0));
     }
 
+    /** A part whose jumps stay inside it. */
+    Program part(Program other) {
+        words.addAll(other.words);
+        return this;
+    }
+
     /** Only fit for parts whose jumps stay inside them. */
     void addTo(Program other) {
-        other.words.addAll(words);
+        other.part(this);
+    }
+
+    /** Three words, and the part with which the copy goes on; it must not run out at its end. */
+    Program fork(Program copy) {
+        return call(Asm.FORK).add(Asm.branch(1, 10, 0, 4 + 4 * copy.size())).part(copy);
+    }
+
+    /** Three words that take 1 + 2 * rounds steps, by x5. */
+    Program delay(int rounds) {
+        return set(5, rounds).add(Asm.number(0, 5, 5, -1), Asm.branch(1, 5, 0, -4));
     }
 
     int size() {

@@ -36,10 +36,12 @@ public final class CallEdgeTest {
 
     private static void callsGoByX17() {
         CHECKS.sentence("CALLS go by x17, with x10 = a; the answer comes to x10 (some also change x11)");
-        int[] kinds = {Asm.YIELD, Asm.OWN_NUMBER, Asm.FORK, Asm.WAIT, Asm.GROW, Asm.WRITE, Asm.READ, Asm.CLOSE, Asm.DUP, Asm.KILL, 12};
+        int[] kinds = {Asm.YIELD, Asm.OWN_NUMBER, Asm.FORK, Asm.WAIT, Asm.GROW, Asm.WRITE, Asm.READ, Asm.CLOSE, Asm.DUP,
+            Asm.KILL, 12};
         int[] answers = {1, 1, 2, -1, 3, 91, -1, 0, 0, 0, -1};
         for (int i = 0; i < kinds.length; i++) {
-            PagedKernel kernel = LastCall.answers(CHECKS, "call " + kinds[i], new Program().call(kinds[i], 1, 4096 + 91), answers[i]);
+            PagedKernel kernel = LastCall.answers(CHECKS, "call " + kinds[i], new Program().call(kinds[i], 1, 4096 + 91),
+                answers[i]);
             CHECKS.due("x11 stays after " + kinds[i], kernel.register(1, 11), 4096 + 91);
             CHECKS.due("x17 stays after " + kinds[i], kernel.register(1, 17), kinds[i]);
         }
@@ -88,7 +90,8 @@ public final class CallEdgeTest {
 
     private static void ownNumber() {
         CHECKS.sentence("2: its number");
-        Program program = new Program().set(17, Asm.FORK).add(Asm.CALL, Asm.branch(4, 0, 10, -4)).call(Asm.OWN_NUMBER, -5).keep(20).stay();
+        Program program = new Program().set(17, Asm.FORK).add(Asm.CALL, Asm.branch(4, 0, 10, -4)).call(Asm.OWN_NUMBER, -5)
+            .keep(20).stay();
         PagedKernel kernel = program.ran(9, 200);
         for (int p = 1; p <= 8; p++) {
             CHECKS.due("of " + p, kernel.register(p, 20), p);
@@ -131,7 +134,8 @@ public final class CallEdgeTest {
         program.delay(20);
         PagedKernel ended = LastCall.refused(CHECKS, "seven that have ended", new Program().part(program).call(Asm.FORK));
         CHECKS.due("frames are there", ended.freeFrames() > 20, true);
-        PagedKernel waited = LastCall.answers(CHECKS, "one was waited for", new Program().part(program).call(Asm.WAIT).call(Asm.FORK), 2);
+        PagedKernel waited = LastCall.answers(CHECKS, "one was waited for",
+            new Program().part(program).call(Asm.WAIT).call(Asm.FORK), 2);
         CHECKS.due("it is new", waited.stateOf(2), 1);
     }
 
@@ -151,7 +155,8 @@ public final class CallEdgeTest {
 
     private static void waitTakesTheLeast() {
         CHECKS.sentence("4 WAIT: of its children that have ended the one with the least number is there no longer");
-        Program program = new Program().fork(stays()).fork(new Program().delay(20).call(Asm.EXIT, 33)).fork(new Program().call(Asm.EXIT, 44));
+        Program program = new Program().fork(stays()).fork(new Program().delay(20).call(Asm.EXIT, 33))
+            .fork(new Program().call(Asm.EXIT, 44));
         program.delay(90).call(Asm.WAIT);
         PagedKernel kernel = LastCall.answers(CHECKS, "3, though 4 ended before and 2 has not", program, 3);
         CHECKS.due("3 is there no longer", kernel.stateOf(3), 0);
@@ -179,14 +184,16 @@ public final class CallEdgeTest {
         CHECKS.due("but is no child of 2", sibling.register(2, 20), -1);
         CHECKS.due("x11 of 2", sibling.register(2, 11), 99);
         Program middle = new Program().fork(new Program().delay(30).add(0)).call(Asm.EXIT, 0);
-        PagedKernel orphan = new Program().fork(new Program().delay(20).call(Asm.WAIT).keep(20).stay()).fork(middle).call(Asm.WAIT).call(Asm.WAIT).call(Asm.WAIT).ran(9, 300);
+        PagedKernel orphan = new Program().fork(new Program().delay(20).call(Asm.WAIT).keep(20).stay()).fork(middle)
+            .call(Asm.WAIT).call(Asm.WAIT).call(Asm.WAIT).ran(9, 300);
         CHECKS.due("nor are those that 1 took over", orphan.register(2, 20), -1);
     }
 
     private static void waitSleeps() {
         CHECKS.sentence("4 WAIT: otherwise it is WAITING until one has ended");
-        PagedKernel kernel = LastCall.sleeps(CHECKS, "waiting", new Program().fork(new Program().delay(40).call(Asm.EXIT, 6)).call(Asm.WAIT), 4);
-        while (kernel.stateOf(2) == 1 && kernel.step() == 2) {
+        PagedKernel kernel = LastCall.sleeps(CHECKS, "waiting",
+            new Program().fork(new Program().delay(40).call(Asm.EXIT, 6)).call(Asm.WAIT), 4);
+        for (int i = 0; i < 500 && kernel.stateOf(2) == 1 && kernel.step() == 2; i++) {
             CHECKS.due("until 2 has ended", kernel.stateOf(1) == 4, kernel.stateOf(2) == 1);
         }
         CHECKS.due("2 has ended", kernel.exitOf(2), 6);
@@ -200,6 +207,16 @@ public final class CallEdgeTest {
         CHECKS.due("3 has ended", grand.stateOf(3), 5);
         CHECKS.due("2 is its parent", grand.parentOf(3), 2);
         CHECKS.due("1 waits on", grand.stateOf(1), 4);
+        // A living one that 1 gets from another wakes it when it ends, not before.
+        Program second = new Program().fork(new Program().fork(new Program().delay(60).call(Asm.EXIT, 44)).add(0)).stay();
+        PagedKernel got = new Program().fork(second).call(Asm.WAIT).keep(20).stay().booted(40, 9);
+        CHECKS.until("4 has 1", got, () -> got.parentOf(4) == 1);
+        CHECKS.due("3 has ended", got.stateOf(3), 5);
+        CHECKS.due("1 waits on for all that", got.stateOf(1), 4);
+        CHECKS.until("4 has ended", got, () -> got.stateOf(4) == 5);
+        CHECKS.due("1 waits no more", got.stateOf(1), 1);
+        CHECKS.until("1 has its answer", got, () -> got.register(1, 20) != 0);
+        CHECKS.due("it is 4", got.register(1, 20), 4);
     }
 
     private static void grows() {
@@ -241,13 +258,16 @@ public final class CallEdgeTest {
         dueKilled(ready, 2);
         CHECKS.due("x11 stays", ready.register(1, 11), 7);
         Program reader = new Program().call(Asm.PIPE).call(Asm.READ, 0);
-        PagedKernel reading = LastCall.answers(CHECKS, "one that reads", new Program().fork(reader).delay(9).call(Asm.KILL, 2), 0);
+        PagedKernel reading = LastCall.answers(CHECKS, "one that reads",
+            new Program().fork(reader).delay(9).call(Asm.KILL, 2), 0);
         dueKilled(reading, 2);
         Program writer = new Program().call(Asm.PIPE).set(17, Asm.WRITE).set(10, 2).add(Asm.CALL, Asm.jal(0, -8));
-        PagedKernel writing = LastCall.answers(CHECKS, "one that writes", new Program().fork(writer).delay(60).call(Asm.KILL, 2), 0);
+        PagedKernel writing = LastCall.answers(CHECKS, "one that writes",
+            new Program().fork(writer).delay(60).call(Asm.KILL, 2), 0);
         dueKilled(writing, 2);
         Program waiter = new Program().fork(stays()).call(Asm.WAIT);
-        PagedKernel waiting = LastCall.answers(CHECKS, "one that waits", new Program().fork(waiter).delay(20).call(Asm.KILL, 2), 0);
+        PagedKernel waiting = LastCall.answers(CHECKS, "one that waits",
+            new Program().fork(waiter).delay(20).call(Asm.KILL, 2), 0);
         dueKilled(waiting, 2);
         CHECKS.due("its child lives", waiting.stateOf(3), 1);
         Program seven = new Program();
@@ -279,11 +299,14 @@ public final class CallEdgeTest {
         }
         LastCall.refused(CHECKS, "one that was waited for", new Program().fork(ends()).call(Asm.WAIT).call(Asm.KILL, 2));
         CHECKS.sentence("11 KILL: -1 when a .. has ended");
-        PagedKernel ended = LastCall.refused(CHECKS, "one that has ended", new Program().fork(new Program().call(Asm.EXIT, 5)).delay(20).call(Asm.KILL, 2));
+        PagedKernel ended = LastCall.refused(CHECKS, "one that has ended",
+            new Program().fork(new Program().call(Asm.EXIT, 5)).delay(20).call(Asm.KILL, 2));
         CHECKS.due("its exit stays", ended.exitOf(2), 5);
-        PagedKernel twice = LastCall.refused(CHECKS, "one that was killed", new Program().fork(stays()).call(Asm.KILL, 2).call(Asm.KILL, 2));
+        PagedKernel twice = LastCall.refused(CHECKS, "one that was killed",
+            new Program().fork(stays()).call(Asm.KILL, 2).call(Asm.KILL, 2));
         CHECKS.due("its exit stays too", twice.exitOf(2), 137);
-        PagedKernel first = new Program().fork(new Program().delay(9).call(Asm.KILL, 1).keep(20).stay()).call(Asm.EXIT, 3).ran(9, 100);
+        PagedKernel first = new Program().fork(new Program().delay(9).call(Asm.KILL, 1).keep(20).stay()).call(Asm.EXIT, 3)
+            .ran(9, 100);
         CHECKS.due("process 1, which is there for ever", first.register(2, 20), -1);
         CHECKS.due("with the exit it had", first.exitOf(1), 3);
     }

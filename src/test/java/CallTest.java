@@ -126,7 +126,7 @@ public final class CallTest {
         CHECKS.due("pc stays", kernel.word(1, kernel.pc(1)), Asm.CALL);
         CHECKS.due("x10 stays", kernel.register(1, 10), 2);
         CHECKS.due("x11 stays", kernel.register(1, 11), 3);
-        while (kernel.stateOf(2) != 5) {
+        for (int i = 0; i < 500 && kernel.stateOf(2) != 5; i++) {
             if (kernel.step() != 2) {
                 CHECKS.due("only 2 runs", 0, 1);
                 break;
@@ -165,7 +165,7 @@ public final class CallTest {
         program.mend(toFast, Asm.branch(0, 10, 0, program.here() - toFast));
         program.add(Asm.number(0, 10, 10, 7)).call(Asm.EXIT);
         PagedKernel kernel = program.booted(40, 1);
-        while (kernel.stateOf(3) != 5 && kernel.step() > 0) {
+        for (int i = 0; i < 500 && kernel.stateOf(3) != 5 && kernel.step() > 0; i++) {
             CHECKS.due("2 ends later", kernel.stateOf(2) == 5, false);
         }
         for (int i = 0; i < 200 && kernel.register(1, 22) == 0; i++) {

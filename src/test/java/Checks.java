@@ -81,7 +81,8 @@ final class Checks {
 
     void finish() {
         closeSentence();
-        System.out.println(title + ": " + (sentences > 0 ? sentences + " sentences, " : "") + made + " checks, " + wrong + " wrong");
+        String held = sentences > 0 ? sentences + " sentences, " : "";
+        System.out.println(title + ": " + held + made + " checks, " + wrong + " wrong");
         if (wrong != 0) {
             System.exit(1);
         }

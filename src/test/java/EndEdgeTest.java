@@ -7,8 +7,10 @@ public final class EndEdgeTest {
         framesAreFree();
         descriptorsAreNothing();
         childrenGetOne();
+        childrenOfAGrandchildGetOne();
         endedChildrenOfTheLivingStay();
         childrenGetNobody();
+        childrenOfAGrandchildGetNobody();
         childrenOfOne();
         endedChildrenOfOneGo();
         endedChildrenGo();
@@ -85,10 +87,48 @@ public final class EndEdgeTest {
         CHECKS.due("the child of its child has what it had", deep.parentOf(4), 3);
     }
 
+    /** 3, a child of 2, ends and leaves 4, which lives, and 5, which has ended: they go to 1, not to 2. */
+    private static void childrenOfAGrandchildGetOne() {
+        CHECKS.sentence("its children get the parent 1: though its own parent is another");
+        Program third = new Program().fork(stays()).fork(exits(55)).delay(30).call(Asm.EXIT, 33);
+        PagedKernel kernel = new Program().fork(new Program().fork(third).stay()).call(Asm.WAIT).keep(20).stay().booted(40, 9);
+        CHECKS.until("5 has ended", kernel, () -> kernel.stateOf(5) == 5);
+        CHECKS.due("4 has 3", kernel.parentOf(4), 3);
+        CHECKS.due("5 has 3", kernel.parentOf(5), 3);
+        CHECKS.due("1 waits for 2", kernel.stateOf(1), 4);
+        CHECKS.until("3 has ended", kernel, () -> kernel.stateOf(3) == 5);
+        CHECKS.due("3 has 2", kernel.parentOf(3), 2);
+        CHECKS.due("4 has 1", kernel.parentOf(4), 1);
+        CHECKS.due("5 has 1", kernel.parentOf(5), 1);
+        CHECKS.due("4 lives", kernel.stateOf(4), 1);
+        CHECKS.due("5 is there", kernel.exitOf(5), 55);
+        CHECKS.due("so that 1 need not wait any more", kernel.stateOf(1), 1);
+        CHECKS.until("1 has its answer", kernel, () -> kernel.register(1, 20) != 0);
+        CHECKS.due("it is 5", kernel.register(1, 20), 5);
+        CHECKS.due("with its exit", kernel.register(1, 11), 55);
+    }
+
+    /** The same when 1 has ended: 4 has no parent, and 5 goes, though 2 lives. */
+    private static void childrenOfAGrandchildGetNobody() {
+        CHECKS.sentence("its children get the parent .. 0 when process 1 has ended: though its own parent lives");
+        Program third = new Program().fork(stays()).fork(exits(55)).delay(30).call(Asm.EXIT, 33);
+        PagedKernel kernel = new Program().fork(new Program().delay(9).fork(third).stay()).add(0).booted(40, 9);
+        CHECKS.until("5 has ended", kernel, () -> kernel.stateOf(5) == 5);
+        CHECKS.due("1 has ended", kernel.stateOf(1), 5);
+        CHECKS.due("5 has 3", kernel.parentOf(5), 3);
+        CHECKS.until("3 has ended", kernel, () -> kernel.stateOf(3) == 5);
+        CHECKS.due("3 has 2 and stays", kernel.parentOf(3), 2);
+        CHECKS.due("4 has none", kernel.parentOf(4), 0);
+        CHECKS.due("4 lives", kernel.stateOf(4), 1);
+        CHECKS.due("5 is gone", kernel.stateOf(5), 0);
+        CHECKS.due("2 lives", kernel.stateOf(2), 1);
+    }
+
     private static void endedChildrenOfTheLivingStay() {
         CHECKS.sentence("its children get the parent 1: those that have ended too, which stay for it");
         Program second = new Program().fork(exits(33)).delay(30).call(Asm.EXIT, 22);
-        PagedKernel kernel = new Program().fork(second).delay(90).call(Asm.WAIT).keep(20).call(Asm.WAIT).keep(21).stay().booted(40, 9);
+        PagedKernel kernel = new Program().fork(second).delay(90).call(Asm.WAIT).keep(20).call(Asm.WAIT).keep(21).stay()
+            .booted(40, 9);
         CHECKS.until("3 has ended", kernel, () -> kernel.stateOf(3) == 5);
         CHECKS.due("it has 2", kernel.parentOf(3), 2);
         CHECKS.until("2 has ended", kernel, () -> kernel.stateOf(2) == 5);
@@ -98,7 +138,8 @@ public final class EndEdgeTest {
         CHECKS.until("1 waits for both", kernel, () -> kernel.register(1, 21) != 0);
         CHECKS.due("2 first", kernel.register(1, 20), 2);
         CHECKS.due("then 3", kernel.register(1, 21), 3);
-        Program sleeper = new Program().fork(new Program().fork(exits(44)).delay(30).stay()).delay(60).call(Asm.KILL, 2).call(Asm.WAIT).call(Asm.WAIT).keep(20).stay();
+        Program sleeper = new Program().fork(new Program().fork(exits(44)).delay(30).stay()).delay(60).call(Asm.KILL, 2)
+            .call(Asm.WAIT).call(Asm.WAIT).keep(20).stay();
         PagedKernel adopts = sleeper.ran(9, 300);
         CHECKS.due("a WAIT that comes later gets it", adopts.register(1, 20), 3);
     }
@@ -177,7 +218,7 @@ public final class EndEdgeTest {
             CHECKS.until("1 has ended", kernel, () -> kernel.stateOf(1) == 5);
             CHECKS.due("2 has none", kernel.parentOf(2), 0);
             int maker = 0;
-            while (kernel.stateOf(2) == 1) {
+            for (int i = 0; i < 500 && kernel.stateOf(2) == 1; i++) {
                 maker = kernel.step();
             }
             CHECKS.due("2 made the step", maker, 2);
@@ -188,7 +229,8 @@ public final class EndEdgeTest {
             CHECKS.due("no turn", kernel.current(), 0);
             CHECKS.due("all have ended", kernel.step(), -1);
         }
-        PagedKernel killed = new Program().fork(stays()).fork(new Program().delay(9).call(Asm.KILL, 2).keep(20).call(Asm.KILL, 2).keep(21).stay()).add(0).ran(9, 200);
+        PagedKernel killed = new Program().fork(stays())
+            .fork(new Program().delay(9).call(Asm.KILL, 2).keep(20).call(Asm.KILL, 2).keep(21).stay()).add(0).ran(9, 200);
         CHECKS.due("killed by another", killed.stateOf(2), 0);
         CHECKS.due("whose answer is 0", killed.register(3, 20), 0);
         CHECKS.due("and then -1", killed.register(3, 21), -1);

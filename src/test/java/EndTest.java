@@ -170,7 +170,8 @@ public final class EndTest {
 
     /** 1 has ended; 2, without a parent, ends and is there no longer; 1 stays. */
     private static void orphanEnds() {
-        PagedKernel kernel = forkedThen(new Program().call(Asm.EXIT, 1), new Program().nothing(5).call(Asm.EXIT, 2)).booted(40, 9);
+        PagedKernel kernel = forkedThen(new Program().call(Asm.EXIT, 1), new Program().nothing(5).call(Asm.EXIT, 2))
+            .booted(40, 9);
         kernel.run(6);
         CHECKS.due("1 has ended", kernel.stateOf(1), 5);
         CHECKS.due("2 has no parent", kernel.parentOf(2), 0);

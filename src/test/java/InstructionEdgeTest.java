@@ -76,7 +76,8 @@ public final class InstructionEdgeTest {
         }
 
         CHECKS.sentence("J bits 31, 19 .. 12, 20, 30 .. 21 and a 0");
-        for (int j : new int[] {0, 4, 1024, 2044, 2048, 4092, 4096, 524288, 1048572, -4, -2048, -2052, -4096, -524288, -1048576}) {
+        for (int j : new int[] {0, 4, 1024, 2044, 2048, 4092, 4096, 524288, 1048572, -4, -2048, -2052, -4096, -524288,
+            -1048576}) {
             CHECKS.due("J " + j, after(Asm.jal(0, j), 0, 0).pc(1), 8 + j);
         }
 
@@ -234,7 +235,8 @@ public final class InstructionEdgeTest {
         int[][] less = {{-1, 0}, {0, 0}, {1, 0}, {LEAST, -2048}, {-2048, -2048}, {-2049, -2048}, {MOST, 2047}, {2047, 2047},
             {2046, 2047}, {-1, -1}, {-2, -1}, {0, -1}, {MOST, -1}, {0, 1}, {LEAST, 2047}, {LEAST, 0}};
         for (int[] pair : less) {
-            CHECKS.due(pair[0] + " less than " + pair[1], x7(Asm.number(2, 7, 5, pair[1]), pair[0], 0), pair[0] < pair[1] ? 1 : 0);
+            CHECKS.due(pair[0] + " less than " + pair[1], x7(Asm.number(2, 7, 5, pair[1]), pair[0], 0),
+                pair[0] < pair[1] ? 1 : 0);
             CHECKS.due(pair[0] + " less without sign than " + pair[1], x7(Asm.number(3, 7, 5, pair[1]), pair[0], 0),
                 Integer.compareUnsigned(pair[0], pair[1]) < 0 ? 1 : 0);
         }
@@ -362,7 +364,8 @@ public final class InstructionEdgeTest {
             far.step();
             CHECKS.due("being there is one", far.exitOf(1), 129);
         }
-        PagedKernel grown = new Program().call(Asm.GROW, 1).set(6, Asm.NOTHING).add(Asm.put(2, 6, 0, 128), Asm.jal(0, 108)).ran(9, 7);
+        PagedKernel grown = new Program().call(Asm.GROW, 1).set(6, Asm.NOTHING).add(Asm.put(2, 6, 0, 128), Asm.jal(0, 108))
+            .ran(9, 7);
         CHECKS.due("a page that was got is there", grown.pc(1), 132);
         CHECKS.due("and what is on it is done", grown.stateOf(1), 1);
     }
@@ -442,11 +445,13 @@ public final class InstructionEdgeTest {
 
     private static void nothingElse() {
         CHECKS.sentence("FAULTS end the process .., nothing else being changed by the instruction");
-        int[] words = {Asm.jal(7, 2), Asm.jalr(7, 0, 2), Asm.branch(0, 0, 0, 2), 0, Asm.BREAK, Asm.read(2, 7, 0, 1), Asm.read(0, 7, 0, 128),
+        int[] words = {Asm.jal(7, 2), Asm.jalr(7, 0, 2), Asm.branch(0, 0, 0, 2), 0, Asm.BREAK, Asm.read(2, 7, 0, 1),
+            Asm.read(0, 7, 0, 128),
             Asm.put(2, 7, 0, 1), Asm.put(0, 7, 0, 128), Asm.shift(1, 1, 7, 7, 1), Asm.registers(0, 1, 7, 7, 7)};
         int[] exits = {128, 128, 128, 130, 131, 132, 133, 134, 135, 130, 130};
         for (int i = 0; i < words.length; i++) {
-            Program program = new Program().fork(new Program().stay()).call(Asm.WRITE, 1, 'e').set(7, 1234).set(17, 9).add(words[i]);
+            Program program = new Program().fork(new Program().stay()).call(Asm.WRITE, 1, 'e').set(7, 1234).set(17, 9)
+                .add(words[i]);
             PagedKernel kernel = program.booted(12, 8);
             CHECKS.until("it comes to the word", kernel, () -> kernel.pc(1) == program.here() - 4 && kernel.current() == 1);
             int[] before = new int[32];

@@ -9,7 +9,7 @@ final class Look {
 
     static String all(PagedKernel kernel) {
         List<Integer> row = new ArrayList<>();
-        for (int i = 0; kernel.waitingTurn(i) != 0; i++) {
+        for (int i = 0; i < 10 && kernel.waitingTurn(i) != 0; i++) {
             row.add(kernel.waitingTurn(i));
         }
         return "turn " + kernel.current() + " row " + row + " " + things(kernel, 0);

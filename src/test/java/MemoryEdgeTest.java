@@ -255,7 +255,8 @@ public final class MemoryEdgeTest {
 
     private static void eightBytes() {
         CHECKS.sentence("A pipe holds at most 8 bytes");
-        PagedKernel kernel = new Program().call(Asm.PIPE).set(17, Asm.WRITE).set(10, 2).add(Asm.CALL, Asm.number(0, 11, 11, 1), Asm.jal(0, -12))
+        PagedKernel kernel = new Program().call(Asm.PIPE).set(17, Asm.WRITE).set(10, 2)
+            .add(Asm.CALL, Asm.number(0, 11, 11, 1), Asm.jal(0, -12))
             .booted(4, 9);
         CHECKS.until("it fills", kernel, () -> kernel.held(0) == 8);
         CHECKS.due("the eighth goes in at once", kernel.stateOf(1), 1);
@@ -297,7 +298,8 @@ public final class MemoryEdgeTest {
     private static void freePipesHoldNothing() {
         CHECKS.sentence("it is FREE .. and holds nothing then");
         Program twice = new Program().call(Asm.WRITE, 2, 7).call(Asm.WRITE, 2, 8);
-        Program program = new Program().call(Asm.PIPE).part(twice).call(Asm.CLOSE, 2).call(Asm.CLOSE, 0).call(Asm.PIPE).call(Asm.READ, 0);
+        Program program = new Program().call(Asm.PIPE).part(twice).call(Asm.CLOSE, 2).call(Asm.CLOSE, 0).call(Asm.PIPE)
+            .call(Asm.READ, 0);
         PagedKernel kernel = program.booted(8, 9);
         kernel.run(10);
         CHECKS.due("two bytes", kernel.held(0), 2);
@@ -315,7 +317,8 @@ public final class MemoryEdgeTest {
         CHECKS.due("two bytes of one that lives", ended.held(0), 2);
         ended.step();
         CHECKS.due("none when it has ended", ended.held(0), 0);
-        Program forked = new Program().call(Asm.PIPE).part(twice).fork(new Program().call(Asm.PIPE).call(Asm.READ, 3).stay()).add(0);
+        Program forked = new Program().call(Asm.PIPE).part(twice).fork(new Program().call(Asm.PIPE).call(Asm.READ, 3).stay())
+            .add(0);
         PagedKernel copy = forked.ran(9, 60);
         CHECKS.due("1 has ended", copy.stateOf(1), 5);
         CHECKS.due("two yet, for the copy", copy.held(0), 2);

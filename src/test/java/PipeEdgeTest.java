@@ -9,6 +9,7 @@ public final class PipeEdgeTest {
     public static void main(String[] args) {
         lowestByte();
         consoleBehind();
+        consoleBesideFullPipes();
         consoleFull();
         noReadingEnd();
         noReadingEndOfFullPipe();
@@ -22,6 +23,7 @@ public final class PipeEdgeTest {
         readSleeps();
         readingUntilByte();
         readingUntilNoWriter();
+        readingUntilKilled();
         readFromWrong();
         pipeOpens();
         noPipe();
@@ -47,7 +49,8 @@ public final class PipeEdgeTest {
         int[] given = {0, 127, 128, 255, 256, 511, -1, -128, -129, LEAST, MOST, 0x12345680};
         int[] bytes = {0, 127, 128, 255, 0, 255, 255, 128, 127, 0, 255, 128};
         for (int i = 0; i < given.length; i++) {
-            PagedKernel console = LastCall.answers(CHECKS, "console " + given[i], new Program().call(Asm.WRITE, 1, given[i]), bytes[i]);
+            PagedKernel console = LastCall.answers(CHECKS, "console " + given[i], new Program().call(Asm.WRITE, 1, given[i]),
+                bytes[i]);
             CHECKS.due("byte", console.console(0), bytes[i]);
             CHECKS.due("x11 stays", console.register(1, 11), given[i]);
             Program pipe = new Program().call(Asm.PIPE).call(Asm.WRITE, 2, given[i]);
@@ -60,8 +63,27 @@ public final class PipeEdgeTest {
     private static void consoleBehind() {
         CHECKS.sentence("6 WRITE: to the console, where it stands behind the others");
         Program twice = new Program().call(Asm.WRITE, 1, 'c').call(Asm.WRITE, 1, 'd').stay();
-        PagedKernel kernel = new Program().call(Asm.WRITE, 1, 'a').call(Asm.WRITE, 1, 'b').fork(twice).delay(20).call(Asm.WRITE, 1, 'e').stay().ran(9, 200);
+        PagedKernel kernel = new Program().call(Asm.WRITE, 1, 'a').call(Asm.WRITE, 1, 'b').fork(twice).delay(20)
+            .call(Asm.WRITE, 1, 'e').stay().ran(9, 200);
         CHECKS.dueConsole("of two processes", kernel, "abcde");
+    }
+
+    /** All pipes are full: that is nothing to the console. */
+    private static void consoleBesideFullPipes() {
+        CHECKS.sentence("6 WRITE: to the console: whatever the pipes hold");
+        // The console moves to 0, so that each of four rounds finds 1 for a reading end and leaves a writing end.
+        Program program = new Program().call(Asm.DUP, 1).keep(9).call(Asm.CLOSE, 1).set(20, 4);
+        int again = program.here();
+        program.call(Asm.PIPE).add(Asm.number(0, 6, 10, 0), Asm.number(0, 7, 11, 0)).set(5, 8).set(17, Asm.WRITE);
+        program.add(Asm.number(0, 10, 7, 0), Asm.CALL, Asm.number(0, 5, 5, -1), Asm.branch(1, 5, 0, -12));
+        program.set(11, 'z').add(Asm.number(0, 10, 9, 0), Asm.CALL).set(17, Asm.CLOSE).add(Asm.number(0, 10, 6, 0), Asm.CALL);
+        program.add(Asm.number(0, 20, 20, -1), Asm.branch(1, 20, 0, again - program.here() - 4)).stay();
+        PagedKernel kernel = program.booted(40, 9);
+        CHECKS.until("all four are filled", kernel, () -> kernel.pc(1) == program.here() - 4);
+        for (int p = 0; p < 4; p++) {
+            CHECKS.due("held by " + p, kernel.held(p), 8);
+        }
+        CHECKS.dueConsole("one byte beside each", kernel, "zzzz");
     }
 
     private static void consoleFull() {
@@ -88,14 +110,16 @@ public final class PipeEdgeTest {
         }
         Program has = new Program().call(Asm.PIPE).fork(new Program().stay()).call(Asm.CLOSE, 0).call(Asm.WRITE, 2, 9);
         LastCall.answers(CHECKS, "another process has it", has, 9);
-        Program ended = new Program().call(Asm.PIPE).fork(new Program().add(0)).call(Asm.CLOSE, 0).delay(20).call(Asm.WRITE, 2, 9);
+        Program ended = new Program().call(Asm.PIPE).fork(new Program().add(0)).call(Asm.CLOSE, 0).delay(20)
+            .call(Asm.WRITE, 2, 9);
         LastCall.refused(CHECKS, "the other has ended", ended);
         Program other = new Program().call(Asm.PIPE).call(Asm.PIPE).call(Asm.CLOSE, 0).call(Asm.WRITE, 2, 9);
         LastCall.refused(CHECKS, "the reading end of another pipe is none", other);
     }
 
     private static void noReadingEndOfFullPipe() {
-        CHECKS.sentence("6 WRITE: -1 when nobody has the pipe's reading end; else, when it holds 8 bytes: the one before the other");
+        CHECKS.sentence("6 WRITE: -1 when nobody has the pipe's reading end; else, when it holds 8 bytes: the one "
+            + "before the other");
         PagedKernel kernel = LastCall.refused(CHECKS, "full", piped(8).call(Asm.CLOSE, 0).call(Asm.WRITE, 2));
         CHECKS.due("ready", kernel.stateOf(1), 1);
         CHECKS.due("it holds 8", kernel.held(0), 8);
@@ -117,7 +141,7 @@ public final class PipeEdgeTest {
         PagedKernel kernel = program.booted(40, 9);
         CHECKS.until("it writes", kernel, () -> kernel.stateOf(1) == 3);
         CHECKS.due("the ninth byte", kernel.register(1, 11), 58);
-        while (kernel.held(0) == 8 && kernel.step() == 2) {
+        for (int i = 0; i < 500 && kernel.held(0) == 8 && kernel.step() == 2; i++) {
             CHECKS.due("as long as it holds 8", kernel.stateOf(1), kernel.held(0) == 8 ? 3 : 1);
         }
         CHECKS.due("seven now", kernel.held(0), 7);
@@ -131,11 +155,12 @@ public final class PipeEdgeTest {
         CHECKS.sentence("6 WRITE: the process is WRITING until .. nobody has the reading end");
         Program[] losses = {new Program().call(Asm.CLOSE, 0).stay(), new Program().add(0), new Program().call(Asm.EXIT, 0)};
         for (Program loss : losses) {
-            Program program = new Program().call(Asm.PIPE).fork(new Program().delay(60).part(loss)).call(Asm.CLOSE, 0).set(17, Asm.WRITE);
+            Program program = new Program().call(Asm.PIPE).fork(new Program().delay(60).part(loss)).call(Asm.CLOSE, 0)
+                .set(17, Asm.WRITE);
             program.set(10, 2).add(Asm.CALL, Asm.branch(5, 10, 0, -8)).stay();
             PagedKernel kernel = program.booted(40, 9);
             CHECKS.until("it writes", kernel, () -> kernel.stateOf(1) == 3);
-            while (kernel.stateOf(1) == 3 && kernel.step() == 2) {
+            for (int i = 0; i < 500 && kernel.stateOf(1) == 3 && kernel.step() == 2; i++) {
                 CHECKS.due("as long as 2 has it", kernel.stateOf(1), kernel.descriptor(2, 0) == 1 ? 3 : 1);
             }
             CHECKS.due("2 has it no more", kernel.descriptor(2, 0), NONE);
@@ -216,9 +241,10 @@ public final class PipeEdgeTest {
 
     private static void readingUntilByte() {
         CHECKS.sentence("7 READ: the process is READING until it holds a byte");
-        Program program = new Program().call(Asm.PIPE).fork(new Program().delay(30).call(Asm.WRITE, 2, 200).stay()).call(Asm.READ, 0);
+        Program program = new Program().call(Asm.PIPE).fork(new Program().delay(30).call(Asm.WRITE, 2, 200).stay())
+            .call(Asm.READ, 0);
         PagedKernel kernel = LastCall.sleeps(CHECKS, "it reads", program, 2);
-        while (kernel.held(0) == 0 && kernel.step() == 2) {
+        for (int i = 0; i < 500 && kernel.held(0) == 0 && kernel.step() == 2; i++) {
             CHECKS.due("as long as it is empty", kernel.stateOf(1), kernel.held(0) == 0 ? 2 : 1);
         }
         CHECKS.due("a byte is there", kernel.held(0), 1);
@@ -230,15 +256,27 @@ public final class PipeEdgeTest {
         CHECKS.sentence("7 READ: the process is READING until .. nobody has the writing end");
         Program[] losses = {new Program().call(Asm.CLOSE, 2).stay(), new Program().add(0), new Program().call(Asm.KILL, 2)};
         for (Program loss : losses) {
-            Program program = new Program().call(Asm.PIPE).fork(new Program().delay(30).part(loss)).call(Asm.CLOSE, 2).call(Asm.READ, 0);
+            Program program = new Program().call(Asm.PIPE).fork(new Program().delay(30).part(loss)).call(Asm.CLOSE, 2)
+                .call(Asm.READ, 0);
             PagedKernel kernel = LastCall.sleeps(CHECKS, "it reads", program, 2);
-            while (kernel.stateOf(1) == 2 && kernel.step() == 2) {
+            for (int i = 0; i < 500 && kernel.stateOf(1) == 2 && kernel.step() == 2; i++) {
                 CHECKS.due("as long as 2 has it", kernel.stateOf(1), kernel.descriptor(2, 2) == 2 ? 2 : 1);
             }
             CHECKS.due("2 has it no more", kernel.descriptor(2, 2), NONE);
             CHECKS.until("then -1", kernel, () -> kernel.register(1, 10) == -1);
             CHECKS.due("pc", kernel.pc(1), program.here());
         }
+    }
+
+    private static void readingUntilKilled() {
+        CHECKS.sentence("7 READ: the process is READING until .. nobody has the writing end: by a KILL too");
+        Program holder = new Program().stay();
+        Program killer = new Program().call(Asm.CLOSE, 2).delay(30).call(Asm.KILL, 2).stay();
+        Program program = new Program().call(Asm.PIPE).fork(holder).fork(killer).call(Asm.CLOSE, 2).call(Asm.READ, 0);
+        PagedKernel kernel = LastCall.sleeps(CHECKS, "it reads", program, 2);
+        CHECKS.until("2 is killed", kernel, () -> kernel.stateOf(2) == 5);
+        CHECKS.due("1 is ready in the very step", kernel.stateOf(1), 1);
+        CHECKS.until("then -1", kernel, () -> kernel.register(1, 10) == -1);
     }
 
     private static void readFromWrong() {
@@ -252,7 +290,8 @@ public final class PipeEdgeTest {
     }
 
     private static void pipeOpens() {
-        CHECKS.sentence("8 PIPE: the least free pipe; the least descriptor that is nothing becomes its reading end, the next least its writing end");
+        CHECKS.sentence("8 PIPE: the least free pipe; the least descriptor that is nothing becomes its reading "
+            + "end, the next least its writing end");
         PagedKernel first = LastCall.answers(CHECKS, "first", new Program().call(Asm.PIPE), 0);
         dueDescriptors(first, 1, 0, 2, -1, -1, -1);
         CHECKS.due("x11", first.register(1, 11), 2);
@@ -353,7 +392,8 @@ public final class PipeEdgeTest {
         for (int kind : new int[] {Asm.WRITE, Asm.READ, Asm.CLOSE, Asm.DUP}) {
             for (int d : NO_DESCRIPTOR) {
                 LastCall.refused(CHECKS, "call " + kind + " with " + d, new Program().call(kind, d, 65));
-                LastCall.refused(CHECKS, "call " + kind + " with " + d + ", none being left", new Program().part(full).call(kind, d, 65));
+                LastCall.refused(CHECKS, "call " + kind + " with " + d + ", none being left",
+                    new Program().part(full).call(kind, d, 65));
             }
         }
     }

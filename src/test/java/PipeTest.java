@@ -211,7 +211,8 @@ public final class PipeTest {
     }
 
     private static void freePipeIsEmpty() {
-        Program program = new Program().call(Asm.PIPE).call(Asm.WRITE, 2, 3).call(Asm.WRITE, 2, 4).call(Asm.CLOSE, 2).call(Asm.CLOSE, 0);
+        Program program = new Program().call(Asm.PIPE).call(Asm.WRITE, 2, 3).call(Asm.WRITE, 2, 4).call(Asm.CLOSE, 2)
+            .call(Asm.CLOSE, 0);
         PagedKernel kernel = program.ran(9, program.size());
         CHECKS.due("free and empty", kernel.held(0), 0);
         program.call(Asm.PIPE).call(Asm.WRITE, 2, 9).call(Asm.READ, 0);

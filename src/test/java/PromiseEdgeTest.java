@@ -132,7 +132,8 @@ public final class PromiseEdgeTest {
             CHECKS.due("x2 for " + lengths[i], kernel.register(1, 2), 64 * pages[i]);
         }
 
-        CHECKS.sentence("3: PC 0, x2 = 64 times its pages, all other registers 0, parent 0, descriptor 1 the console; it is ready");
+        CHECKS.sentence("3: PC 0, x2 = 64 times its pages, all other registers 0, parent 0, descriptor 1 the "
+            + "console; it is ready");
         PagedKernel kernel = new Program().stay().booted(12, 4);
         CHECKS.due("pc", kernel.pc(1), 0);
         for (int k = 0; k < 32; k++) {
@@ -226,7 +227,8 @@ public final class PromiseEdgeTest {
         dueAsleep(writing);
 
         CHECKS.sentence("4: 0 when there is none because all that have not ended are .. WAITING");
-        PagedKernel waiting = asleep(new Program().fork(new Program().call(Asm.PIPE).call(Asm.READ, 0).stay()).call(Asm.WAIT).stay());
+        PagedKernel waiting = asleep(new Program().fork(new Program().call(Asm.PIPE).call(Asm.READ, 0).stay()).call(Asm.WAIT)
+            .stay());
         CHECKS.due("waiting", waiting.stateOf(1), 4);
         CHECKS.due("for one that reads", waiting.stateOf(2), 2);
         dueAsleep(waiting);
@@ -353,7 +355,8 @@ public final class PromiseEdgeTest {
             CHECKS.due("of " + p, ready.exitOf(p), NONE);
         }
         CHECKS.due("of one that reads", asleep(new Program().call(Asm.PIPE).call(Asm.READ, 0)).exitOf(1), NONE);
-        PagedKernel anew = new Program().fork(new Program().call(Asm.EXIT, 9)).call(Asm.WAIT).fork(new Program().stay()).stay().booted(12, 9);
+        PagedKernel anew = new Program().fork(new Program().call(Asm.EXIT, 9)).call(Asm.WAIT).fork(new Program().stay())
+            .stay().booted(12, 9);
         CHECKS.until("2 has ended", anew, () -> anew.stateOf(2) == 5);
         CHECKS.due("its exit", anew.exitOf(2), 9);
         CHECKS.until("2 is gone", anew, () -> anew.stateOf(2) == 0);
@@ -464,7 +467,8 @@ public final class PromiseEdgeTest {
 
     private static void promise14() {
         CHECKS.sentence("14: The word at an address of its pages");
-        Program program = new Program().call(Asm.GROW, 6).set(6, -77).add(Asm.put(2, 6, 0, 60), Asm.put(2, 6, 0, 64), Asm.put(2, 6, 0, 508));
+        Program program = new Program().call(Asm.GROW, 6).set(6, -77)
+            .add(Asm.put(2, 6, 0, 60), Asm.put(2, 6, 0, 64), Asm.put(2, 6, 0, 508));
         PagedKernel kernel = program.ran(9, program.size());
         int[] there = {0, 60, 64, 508, 68, 504};
         int[] words = {Asm.number(0, 10, 0, 6), -77, -77, -77, 0, 0};

@@ -25,7 +25,8 @@ public final class StepEdgeTest {
     private static void rowHoldsTheReady() {
         CHECKS.sentence("The ROW holds the ready processes but the one, if any, that HAS THE TURN");
         Program reader = new Program().call(Asm.PIPE).call(Asm.READ, 0);
-        PagedKernel kernel = new Program().fork(reader).fork(new Program().add(0)).fork(new Program().stay()).stay().booted(40, 9);
+        PagedKernel kernel = new Program().fork(reader).fork(new Program().add(0)).fork(new Program().stay()).stay()
+            .booted(40, 9);
         CHECKS.dueRow("booted", kernel, "1");
         kernel.run(1);
         CHECKS.dueRow("1 has the turn", kernel, "");
@@ -74,7 +75,8 @@ public final class StepEdgeTest {
 
     private static void firstOfTheRow() {
         CHECKS.sentence("A STEP: if nobody has the turn, the first of the row gets it");
-        PagedKernel kernel = new Program().fork(new Program().stay()).fork(new Program().stay()).call(Asm.YIELD).stay().booted(40, 9);
+        PagedKernel kernel = new Program().fork(new Program().stay()).fork(new Program().stay()).call(Asm.YIELD).stay()
+            .booted(40, 9);
         kernel.run(8);
         CHECKS.dueRow("after the yield", kernel, "231");
         CHECKS.due("nobody", kernel.current(), 0);
@@ -159,7 +161,8 @@ public final class StepEdgeTest {
 
     private static void yielded() {
         CHECKS.sentence("if it is, and it yielded .., it goes to the end of the row, and nobody has the turn");
-        PagedKernel kernel = new Program().fork(new Program().stay()).add(Asm.number(0, 17, 0, Asm.YIELD), Asm.CALL).stay().booted(40, 9);
+        PagedKernel kernel = new Program().fork(new Program().stay()).add(Asm.number(0, 17, 0, Asm.YIELD), Asm.CALL).stay()
+            .booted(40, 9);
         kernel.run(4);
         CHECKS.due("before it", kernel.current(), 1);
         kernel.step();
@@ -216,10 +219,12 @@ public final class StepEdgeTest {
     }
 
     private static void wokenByTheirNumbers() {
-        CHECKS.sentence("Then, by their numbers, each process that is READING, WRITING or WAITING and need not any more becomes ready");
+        CHECKS.sentence("Then, by their numbers, each process that is READING, WRITING or WAITING and need not any "
+            + "more becomes ready");
         Program second = new Program().delay(30).call(Asm.READ, 0).keep(20).stay();
         Program third = new Program().call(Asm.READ, 0).keep(20).stay();
-        PagedKernel kernel = new Program().call(Asm.PIPE).fork(second).fork(third).delay(60).call(Asm.WRITE, 2).stay().booted(40, 9);
+        PagedKernel kernel = new Program().call(Asm.PIPE).fork(second).fork(third).delay(60).call(Asm.WRITE, 2).stay()
+            .booted(40, 9);
         CHECKS.until("3 reads first", kernel, () -> kernel.stateOf(3) == 2);
         CHECKS.due("2 does not yet", kernel.stateOf(2), 1);
         CHECKS.until("then 2 reads", kernel, () -> kernel.stateOf(2) == 2);
@@ -252,7 +257,8 @@ public final class StepEdgeTest {
     }
 
     private static void needNotAnyMore() {
-        CHECKS.sentence("each process that is READING, WRITING or WAITING and need not any more becomes ready: in the step that changes it");
+        CHECKS.sentence("each process that is READING, WRITING or WAITING and need not any more becomes ready: in "
+            + "the step that changes it");
         Program reader = new Program().call(Asm.READ, 0).stay();
         PagedKernel reads = new Program().call(Asm.PIPE).fork(reader).delay(20).call(Asm.WRITE, 2).stay().booted(40, 9);
         CHECKS.until("2 reads", reads, () -> reads.stateOf(2) == 2);
@@ -289,7 +295,8 @@ public final class StepEdgeTest {
     private static void sameCallAgain() {
         CHECKS.sentence("(It makes the same call again when its turn comes.)");
         Program reader = new Program().call(Asm.READ, 0).keep(20).stay();
-        PagedKernel kernel = new Program().call(Asm.PIPE).fork(reader).fork(reader).delay(30).call(Asm.WRITE, 2, 'q').stay().booted(40, 9);
+        PagedKernel kernel = new Program().call(Asm.PIPE).fork(reader).fork(reader).delay(30).call(Asm.WRITE, 2, 'q').stay()
+            .booted(40, 9);
         CHECKS.until("both read", kernel, () -> kernel.stateOf(2) == 2 && kernel.stateOf(3) == 2);
         int pc = kernel.pc(2);
         CHECKS.until("both are ready", kernel, () -> kernel.stateOf(2) == 1 && kernel.stateOf(3) == 1);

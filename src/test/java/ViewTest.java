@@ -107,7 +107,8 @@ public final class ViewTest {
     }
 
     private static void lookingChangesNothing() {
-        Program program = new Program().call(Asm.PIPE).call(Asm.FORK).call(Asm.WRITE, 2, 7).call(Asm.READ, 0).call(Asm.WRITE, 1).stay();
+        Program program = new Program().call(Asm.PIPE).call(Asm.FORK).call(Asm.WRITE, 2, 7).call(Asm.READ, 0)
+            .call(Asm.WRITE, 1).stay();
         PagedKernel plain = program.booted(40, 3);
         PagedKernel looked = program.booted(40, 3);
         for (int i = 0; i < 60; i++) {
